@@ -875,7 +875,7 @@ public final class ShadowFile {
             keys = 0L;
             for (int page = 0; page < PAGES; page++) {
                 blocks[page] = disk.cells[table][FIRST_ENTRY_CELL + page];
-                if (blocks[page] != NONE) {
+                if (Disk.isDataBlock(blocks[page])) {
                     loadPage(disk.cells[blocks[page]], page);
                 }
             }

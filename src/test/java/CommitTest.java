@@ -49,6 +49,7 @@ public final class CommitTest {
         Help.makeReady(file, "0=1,1=1,2=1,3=1,4=1,5=1,6=1,7=1");
         Check.same("all pages", file.blocksToWrite(), 10);
         Check.same("commit", file.commit(10), 1);
+        Check.text("the log", Help.log(file), "1 1 8 10\n");
         Check.same("after a commit", file.blocksToWrite(), 0);
         Help.makeReady(file, "0=1");
         Check.same("a record that stays", file.blocksToWrite(), 3);
@@ -228,6 +229,12 @@ public final class CommitTest {
         Check.same("three blocks", file.commit(-1), 4);
         Check.same("the table takes the last one", file.cell(0, 2), 31);
         Check.same("wrongBlock", file.wrongBlock(), -1);
+        file.damage(31, 1, 0);
+        Check.promise(30);
+        Check.same("wrongBlock", file.wrongBlock(), 31);
+        file.damage(31, 1, 4);
+        Check.same("wrongBlock", file.wrongBlock(), -1);
+        Check.promise(19);
         Check.same("freeCount", file.freeCount(), 4);
         Help.makeReady(file, "3=2,4=2,5=2,6=2");
         Check.fails("five blocks", file, Check.UNSUPPORTED, () -> file.commit(-1));

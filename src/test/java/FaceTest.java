@@ -45,7 +45,7 @@ public final class FaceTest {
     public static void main(String[] args) throws IOException {
         theMethodsAreThoseOfTheDocument();
         nothingElseCanBeSeen();
-        theObjectIsSmall();
+        theClassesAreSmall();
         theSourceKeepsToTheLanguage();
         Check.end("FaceTest");
     }
@@ -103,8 +103,8 @@ public final class FaceTest {
         }
     }
 
-    /** Rows are made once: 512 of the dearest calls leave the number of objects as it is. */
-    private static void theObjectIsSmall() {
+    /** Rule 11. */
+    private static void theClassesAreSmall() {
         Check.yes("few classes", ShadowFile.class.getDeclaredClasses().length <= 12);
         for (Class<?> inside : ShadowFile.class.getDeclaredClasses()) {
             Check.yes(inside + " has few fields", fieldsOf(inside) <= 20);
@@ -136,8 +136,10 @@ public final class FaceTest {
                         || line.equals("import java.util.NoSuchElementException;"));
             }
             boolean made = line.contains("new ") && !line.contains("throw new ");
-            boolean inRow = line.contains(" = new ");
-            Check.yes("objects are made in rows: " + line.trim(), !made || inRow || isText(line));
+            boolean inField = line.matches(" *(private )?final .* = new .*;");
+            boolean inRow = line.matches(" *[a-z]+\\[[a-z]+\\] = new [A-Z][a-z]+\\(\\);");
+            Check.yes("objects are made in constructors alone: " + line.trim(),
+                    !made || inField || inRow || isText(line));
         }
     }
 

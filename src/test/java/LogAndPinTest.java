@@ -201,5 +201,29 @@ public final class LogAndPinTest {
         Check.same("differences", file.differences(0), 1);
         Check.promise(39);
         Check.same("differentKey", file.differentKey(0, 0), 63);
+        differencesOfAllKeys();
+    }
+
+    private static void differencesOfAllKeys() {
+        ShadowFile file = new ShadowFile();
+        for (int round = 0; round < 2; round++) {
+            file.begin();
+            for (int key = 0; key < 64; key++) {
+                file.put(0, key, key + round);
+            }
+            file.ready(0);
+            file.commit(-1);
+            if (round == 0) {
+                file.pin();
+            }
+        }
+        Check.promise(38);
+        Check.same("all keys", file.differences(0), 64);
+        for (int key = 0; key < 64; key++) {
+            Check.promise(39);
+            Check.same("differentKey", file.differentKey(0, key), key);
+            Check.promise(35);
+            Check.same("pinnedValue", file.pinnedValue(0, key), key);
+        }
     }
 }

@@ -174,6 +174,10 @@ public final class PresentTest {
         wrong(-1, 2, 6, 9);
         wrong(-1, 2, 11, 9);
         wrong(4, 4, 4, 9);
+        wrong(6, 6, 6, 5);
+        for (int page = 0; page < 8; page++) {
+            wrongPage(page);
+        }
         ShadowFile file = twoPages();
         file.begin();
         file.put(0, 1, 7);
@@ -183,6 +187,27 @@ public final class PresentTest {
         Check.same("the root block of a formatted file is 0", file.wrongBlock(), -1);
         file.damage(0, 1, 1);
         Check.same("the root block of a formatted file is 0", file.wrongBlock(), 0);
+    }
+
+    /** The page has all its records; each of them may differ, and so may each bit. */
+    private static void wrongPage(int page) {
+        for (int bit = 0; bit < 8; bit++) {
+            ShadowFile file = new ShadowFile();
+            file.begin();
+            for (int key = page; key < 64; key += 8) {
+                file.put(0, key, key);
+            }
+            file.ready(0);
+            file.commit(-1);
+            int block = file.pageBlock(page);
+            Check.same("wrongBlock", file.wrongBlock(), -1);
+            Help.change(file, block, 4 + bit, -1);
+            Check.same("a value of page " + page, file.wrongBlock(), block);
+            Help.change(file, block, 4 + bit, page + 8 * bit);
+            Check.same("wrongBlock", file.wrongBlock(), -1);
+            Help.change(file, block, 3, 255 - (1 << bit));
+            Check.same("a bit of page " + page, file.wrongBlock(), block);
+        }
     }
 
     private static void wrongBlockIsTheLowest() {

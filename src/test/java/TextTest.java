@@ -161,6 +161,15 @@ public final class TextTest {
         file.put(0, 9, -1);
         Check.same("changes", file.writeChanges(0), 28);
         Check.text("changes", Help.output(file), "0=0,-1,9=-1,10=1234,63=-9999");
+        Check.same("changes again", file.writeChanges(0), 28);
+        Check.text("in place of the output", Help.output(file), "0=0,-1,9=-1,10=1234,63=-9999");
+        Check.same("changes can be read again", readAgain(file), 5);
+    }
+
+    private static int readAgain(ShadowFile file) {
+        int slot = file.begin();
+        Help.feed(file, Help.output(file));
+        return file.readChanges(slot);
     }
 
     private static void writeRecords() {
@@ -172,6 +181,8 @@ public final class TextTest {
         file.put(0, 9, 6);
         Check.same("records", file.writeRecords(), 16);
         Check.text("records", Help.output(file), "9=5,10=-100,62=0");
+        Check.same("records again", file.writeRecords(), 16);
+        Check.text("in place of the output", Help.output(file), "9=5,10=-100,62=0");
         Check.promise(15);
         file.abandon(0);
         Check.fails("an idle slot", file, Check.STATE, () -> file.writeChanges(0));

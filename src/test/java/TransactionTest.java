@@ -10,6 +10,7 @@ public final class TransactionTest {
         formatOfAnOpenFile();
         formatOfAClosedFile();
         formatKeepsTextsAndSalvage();
+        allSlotsEnd();
         begin();
         put();
         putWrongly();
@@ -18,6 +19,7 @@ public final class TransactionTest {
         changesAndState();
         marks();
         marksBelongToTheirSlot();
+        marksOfAllKeys();
         ready();
         abandon();
         closedFile();
@@ -89,6 +91,38 @@ public final class TransactionTest {
         Check.yes("isOpen", file.isOpen());
         Check.same("commitNumber", file.commitNumber(), 0);
         Check.same("the file can be reopened", file.reopen(), 0);
+        String fresh = Help.disk(new ShadowFile());
+        Help.commit(file, "1=5");
+        Check.same("format after an odd commit", file.format(), 1);
+        Check.text("the disk", Help.disk(file), fresh);
+        Check.same("wrongBlock", file.wrongBlock(), -1);
+    }
+
+    private static void allSlotsEnd() {
+        for (int way = 0; way < 3; way++) {
+            Check.promise(way == 0 ? 2 : way == 1 ? 20 : 19);
+            ShadowFile file = new ShadowFile();
+            Help.makeReady(file, "1=1");
+            file.begin();
+            file.begin();
+            file.put(2, 63, 1);
+            file.mark(2);
+            if (way == 0) {
+                file.format();
+            } else if (way == 1) {
+                file.reopen();
+            } else {
+                file.commit(0);
+                file.reopen();
+            }
+            for (int slot = 0; slot < 3; slot++) {
+                Check.same("the state of slot " + slot, file.slotState(slot), 0);
+                Check.same("the changes of slot " + slot, file.changes(slot), 0);
+            }
+            Check.same("blocksToWrite", file.blocksToWrite(), 0);
+            Check.same("begin", file.begin() + file.begin() + file.begin(), 3);
+            Check.fails("no marks", file, Check.MISSING, () -> file.goBack(2));
+        }
     }
 
     private static void formatKeepsTextsAndSalvage() {
@@ -304,6 +338,23 @@ public final class TransactionTest {
         Check.same("the other's value", file.get(0, 1), 1);
     }
 
+    private static void marksOfAllKeys() {
+        Check.promise(10);
+        ShadowFile file = new ShadowFile();
+        file.begin();
+        for (int key = 0; key < 64; key++) {
+            file.put(0, key, key + 100);
+        }
+        file.mark(0);
+        for (int key = 0; key < 64; key++) {
+            file.put(0, key, key - 100);
+        }
+        Check.same("goBack", file.goBack(0), 64);
+        for (int key = 0; key < 64; key++) {
+            Check.same("value", file.get(0, key), key + 100);
+        }
+    }
+
     private static void ready() {
         Check.promise(11);
         ShadowFile file = new ShadowFile();
@@ -354,6 +405,12 @@ public final class TransactionTest {
         Help.makeReady(file, "1=20");
         file.commit(-1);
         Check.text("the order of readiness", Help.records(file), "1=20,4=4");
+        Help.makeReady(file, "1=10");
+        file.abandon(0);
+        Check.same("no slot is ready", file.blocksToWrite(), 0);
+        Check.fails("nothing to commit", file, Check.STATE, () -> file.commit(-1));
+        file.begin();
+        Check.same("ready", file.ready(0), 1);
     }
 
     private static void closedFile() {
