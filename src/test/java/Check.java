@@ -1,3 +1,6 @@
+import java.io.IOException;
+import java.util.ArrayList;
+import java.util.List;
 import java.util.NoSuchElementException;
 
 /** Counts answers that are not due, and names the promise that they break. */
@@ -8,7 +11,9 @@ final class Check {
     static final Class<?> MISSING = NoSuchElementException.class;
     static final Class<?> UNSUPPORTED = UnsupportedOperationException.class;
 
-    private static int promise = 0;
+    private static final List<List<String>> SENTENCES = new ArrayList<>();
+    private static String place = "";
+    private static int checksBeforeSentence = -1;
     private static int checks = 0;
     private static int wrong = 0;
 
@@ -20,7 +25,25 @@ final class Check {
     }
 
     static void promise(int number) {
-        promise = number;
+        place = "promise " + number;
+    }
+
+    /** The checks that follow are the test of this sentence; 0 is the number of the Description. */
+    static void sentence(int number, String sentence) {
+        endOfSentence();
+        while (SENTENCES.size() <= number) {
+            SENTENCES.add(new ArrayList<>());
+        }
+        SENTENCES.get(number).add(sentence);
+        place = (number == 0 ? "Description" : "promise " + number) + ", \"" + sentence + "\"";
+        checksBeforeSentence = checks;
+    }
+
+    private static void endOfSentence() {
+        if (checksBeforeSentence == checks) {
+            wrong++;
+            System.out.println(place + ": nothing is checked");
+        }
     }
 
     static void same(String what, long got, long due) {
@@ -39,9 +62,21 @@ final class Check {
         checks++;
         if (!got.equals(due)) {
             wrong++;
-            System.out.println("promise " + promise + ": " + what + " answered " + got
-                    + ", due is " + due);
+            System.out.println(place + ": " + what + " answered " + behind(got, due)
+                    + ", due is " + behind(due, got));
         }
+    }
+
+    /** A long text is told from shortly before the first sign in which it differs. */
+    private static String behind(String text, String other) {
+        int same = 0;
+        while (same < text.length() && same < other.length()
+                && text.charAt(same) == other.charAt(same)) {
+            same++;
+        }
+        int first = Math.max(0, same - 40);
+        String told = text.substring(first, Math.min(text.length(), same + 80));
+        return (first > 0 ? ".. " : "") + told + (same + 80 < text.length() ? " .." : "");
     }
 
     /** The call throws exactly this class and changes nothing that can be seen. */
@@ -60,6 +95,23 @@ final class Check {
             got = thrown.getClass().getName();
         }
         text(what + " throws", got, due.getName());
+    }
+
+    /** Every sentence from one promise to another has had its test, and stands in the document. */
+    static void endOfSentences(String test, int first, int last) throws IOException {
+        endOfSentence();
+        checksBeforeSentence = -1;
+        for (int number = first; number <= last; number++) {
+            List<String> tested =
+                    number < SENTENCES.size() ? SENTENCES.get(number) : new ArrayList<>();
+            place = "promise " + number;
+            String part = Document.part(number);
+            for (String sentence : tested) {
+                yes("the document says \"" + sentence + "\"", part.contains(sentence));
+            }
+            text("what has no test", Document.rest(number, tested), "");
+        }
+        end(test);
     }
 
     static void end(String test) {

@@ -46,6 +46,63 @@ final class Help {
         return file.commit(-1);
     }
 
+    /** A new file with one commit of the changes. */
+    static ShadowFile with(String changes) {
+        ShadowFile file = new ShadowFile();
+        commit(file, changes);
+        return file;
+    }
+
+    /** A file with the commit 1, in which key 1 is 1, closed by a power failure. */
+    static ShadowFile closed() {
+        ShadowFile file = with("1=1");
+        makeReady(file, "1=2");
+        file.commit(0);
+        return file;
+    }
+
+    /** A file with the commit 1, in which each key k is 100 * k - 3000. */
+    static ShadowFile full() {
+        ShadowFile file = new ShadowFile();
+        int slot = file.begin();
+        for (int key = 0; key < KEYS; key++) {
+            file.put(slot, key, 100 * key - 3000);
+        }
+        file.ready(slot);
+        file.commit(-1);
+        return file;
+    }
+
+    /** A new file whose commit number is another one. */
+    static ShadowFile numbered(int number) {
+        ShadowFile file = new ShadowFile();
+        change(file, 0, 1, number);
+        change(file, 2, 1, number);
+        file.reopen();
+        return file;
+    }
+
+    /** The numbers nearest outside a range, and those farthest outside it. */
+    static int[] outside(int first, int last) {
+        return new int[] {first - 1, last + 1, Integer.MIN_VALUE, Integer.MAX_VALUE};
+    }
+
+    /** The length of the input, which is emptied by it. */
+    static int inputLength(ShadowFile file) {
+        int length = file.feed('x') - 1;
+        empty(file);
+        return length;
+    }
+
+    static void empty(ShadowFile file) {
+        try {
+            file.readChanges(-1);
+        } catch (IndexOutOfBoundsException expected) {
+            return;
+        }
+        throw new IllegalStateException("readChanges(-1) answered");
+    }
+
     static String records(ShadowFile file) {
         StringBuilder text = new StringBuilder();
         for (int i = 0; i < file.size(); i++) {
