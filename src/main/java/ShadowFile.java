@@ -1185,7 +1185,7 @@ public final class ShadowFile {
 
         void takeDigit(int state, int place, int factor) {
             int digit = signs[place] - '0';
-            if (state == KEY_1 || state == REMOVED_1) {
+            if (entries < LIMIT && (state == KEY_1 || state == REMOVED_1)) {
                 keys[entries] = digit;
                 keyPlaces[entries] = place;
                 values[entries] = 0;
